@@ -526,6 +526,13 @@ public final class PromiseTest {
     y.swap(0, 1);
     due("bodily(0) swapped", y.bodily(0), 1);
     due("bodily(1) swapped", y.bodily(1), 0);
+    // Each of two dead ones has a first.
+    OnePlays v = told(HEAD + "part d dead coat 0 don 0 doff 0;part e dead coat 0 don 0 doff 0;" + SCENES
+        + "on d one 1 to 2 left left;on d one 3 to 4 left left;on e one 5 to 6 left left;"
+        + "on e one 7 to 8 left left");
+    due("bodily(1)", v.bodily(1), 0);
+    due("bodily(2)", v.bodily(2), 1);
+    due("bodily(3)", v.bodily(3), 0);
     // A puppet that is behind is behind.
     OnePlays z = told(HEAD + "part d puppet coat 0 don 0 doff 0;part e plain coat 0 don 0 doff 0;"
         + SCENES + "on d one 1 to 5 left left;on d one 2 to 5 left left behind;"
@@ -781,6 +788,16 @@ public final class PromiseTest {
     due("cuts()", w.cuts(), 2);
     promise = 25;
     due("cutsBy()", w.cutsBy(), 2 | 4);
+    // With two players a, b by one (b's first and a's first cut) has less bits than
+    // a, c by one (c cut) and b's first: found though it needs two cuts of one player.
+    OnePlays u = told("piece walk 0 gap 0 players 2;part a plain coat 0 don 0 doff 0;"
+        + "part b plain coat 0 don 0 doff 0;part c plain coat 0 don 0 doff 0;scene s lasts 60;"
+        + "on b s 10 to 20 left left;on a s 15 to 25 left left;on a s 40 to 45 left left;"
+        + "on c s 14 to 42 left left;on b s 12 to 18 left left");
+    promise = 24;
+    due("cuts()", u.cuts(), 2);
+    promise = 25;
+    due("cutsBy()", u.cutsBy(), 1 | 2);
     // As many players as told: with two of them one of three goes.
     OnePlays v = told("piece walk 0 gap 0 players 2;part a plain coat 0 don 0 doff 0;"
         + "part b plain coat 0 don 0 doff 0;part c plain coat 0 don 0 doff 0;scene s lasts 9;"
@@ -817,6 +834,12 @@ public final class PromiseTest {
     promise = 28;
     due("lend()", y.lend(), 0);
     due(never, "lend()", never.lend(), 0, 0);
+    // c meets a and b, which don't meet: without c one does. Of three at once each is as good.
+    String meets = "part q plain coat 1 don 0 doff 0;part r plain coat 1 don 0 doff 0;";
+    due("lend() of the last", told(SHORT.replace("don 4 doff 6", "don 0 doff 0") + meets
+        + "on p s 0 to 2 left left;on q s 6 to 9 left left;on r s 1 to 8 left left").lend(), 2);
+    due("lend() of like ones", told(SHORT + meets + "on p s 0 to 2 left left;on q s 0 to 9 left left;"
+        + "on r s 1 to 8 left left").lend(), 0);
     // One that can't be: lent, the others do; with two such ones nothing helps.
     String bad = "on p s 0 to 5 left left;on p s 4 to 6 left left;";
     OnePlays one = told(SHORT + "part q plain coat 1 don 0 doff 0;" + bad + "on q s 0 to 1 left left");
@@ -905,6 +928,11 @@ public final class PromiseTest {
     due("of one second, unlike", at.same(0, 1), 0);
     due("of one second, alike", at.same(0, 2), 1);
     due("of one second, sides unlike", at.same(0, 3), 0);
+    // Of one second by numbers: b over a in no time, b off again not.
+    String once = "piece walk 5 gap 0 players 1;part a plain coat 1 don 4 doff 3;"
+        + "part b plain coat 2 don 0 doff 1;scene s lasts 1;";
+    due("a, then b", told(once + "saw a 10 left;saw b 10 left").same(0, 1), 1);
+    due("b, then a", told(once + "saw b 10 left;saw a 10 left").same(0, 1), 0);
     promise = 33;
     due("must()", x.must(), 2);
     due("must()", at.must(), 3);
