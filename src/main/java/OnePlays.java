@@ -827,7 +827,8 @@ public final class OnePlays {
         private boolean partLine() {
             tokens.move();
             long name = tokens.letters;
-            boolean is = newName() && kind() && word("coat") && whole(0, 9)
+            boolean is = newName() && kind() && (values[0] == BEARDED ? whole(0, 99) : tell(0))
+                && word("coat") && whole(0, 9)
                 && word("don") && whole(0, 99) && word("doff") && whole(0, 99);
             if (is) {
                 partNames[piece.partCount] = name;
@@ -836,20 +837,16 @@ public final class OnePlays {
             return is;
         }
 
-        /** The KIND and the beard. */
         private boolean kind() {
-            if (tokens.isWord("beard")) {
-                tokens.move();
-                return tell(BEARDED) && whole(0, 99);
-            }
             int kind = tokens.isWord("plain") ? PLAIN
+                : tokens.isWord("beard") ? BEARDED
                 : tokens.isWord("puppet") ? PUPPET
                 : tokens.isWord("dead") ? DEAD : NONE;
             if (kind == NONE) {
                 return fail(FORM);
             }
             tokens.move();
-            return tell(kind) && tell(0);
+            return tell(kind);
         }
 
         private boolean sceneLine() {
@@ -1779,23 +1776,16 @@ public final class OnePlays {
                 steps[i] = piece.orderList[i] == order ? 0 : NONE;
             }
             for (int count = 0; count < MOST_ORDERS; count++) {
-                if (oneGoes(count, cut)) {
-                    return count;
+                for (int i = 0; i < piece.orderCount; i++) {
+                    if (steps[i] == count && goes(piece.orderList[i], piece.gapTold, cut)) {
+                        return count;
+                    }
                 }
                 if (!reachMore(count)) {
                     return NEVER;
                 }
             }
             return NEVER;
-        }
-
-        private boolean oneGoes(int count, int cut) {
-            for (int i = 0; i < piece.orderCount; i++) {
-                if (steps[i] == count && goes(piece.orderList[i], piece.gapTold, cut)) {
-                    return true;
-                }
-            }
-            return false;
         }
 
         private boolean reachMore(int count) {
