@@ -109,6 +109,21 @@ public final class ActsBoundaryTest {
     Due.is("a twice", x.same(0, 2), 1);
     Due.is("b at 0, a at 5", x.same(0, 3), 0);
     Due.is("b at 0, b at 5", x.same(1, 3), 1);
+    Due.says("SEEN: in time, in whatever row they are told");
+    int[][] rows = {{5, 9, 1, 7, 3}, {1, 3, 5, 7, 9}, {9, 7, 5, 3, 1}, {3, 1, 9, 5, 7}, {5, 1, 3, 9, 7}};
+    for (int[] row : rows) {
+      // A coat higher each time, in no time; back it takes too long.
+      StringBuilder text = new StringBuilder(Due.head(0, 0, 1) + Due.scene("s", 1));
+      for (int time : row) {
+        text.append(Due.part("p" + (char) ('a' + time), "plain", time, 0, 99));
+      }
+      for (int time : row) {
+        text.append(Due.saw("p" + (char) ('a' + time), time));
+      }
+      OnePlays y = Due.told(text.toString());
+      Due.is(y, "must()", y.must(), 1, 0);
+      Due.is(y, "betrayed()", y.betrayed(), -2, 0);
+    }
     Due.says("SEEN: seconds 0 and 999");
     Due.is("0 and 999", both(Due.saw("a", 999), Due.saw("b", 0)), 1);
     Due.is("999 and 999", both(Due.saw("a", 999), Due.saw("a", 999)), 1);
@@ -184,6 +199,16 @@ public final class ActsBoundaryTest {
     int[] due = {4, 1, 2, 0, 3};
     for (int i = 0; i < 5; i++) {
       Due.is("scene(" + i + ")", x.scene(i), due[i]);
+    }
+    Due.says("SWAP of five: undone and done again to the last scene's number");
+    Due.is(x, "undo()", x.undo(), true, 0);
+    int[] before = {4, 1, 2, 3, 0};
+    for (int i = 0; i < 5; i++) {
+      Due.is("scene(" + i + ") behind UNDO", x.scene(i), before[i]);
+    }
+    Due.is(x, "redo()", x.redo(), true, 0);
+    for (int i = 0; i < 5; i++) {
+      Due.is("scene(" + i + ") behind REDO", x.scene(i), due[i]);
     }
     Due.says("swap: false: 1 (unlike)");
     for (int i = 0; i < 5; i++) {
@@ -563,6 +588,16 @@ public final class ActsBoundaryTest {
     }
     OnePlays none = new OnePlays();
     Due.is(none, "part(0, 0) without a PIECE", none.part(0, 0), -1, 1);
+    Due.says("part: 0 its KIND (0 plain, 1 beard, 2 puppet, 3 dead), 4 beard (0 without)");
+    String[] kinds = {"plain", "beard 99", "puppet", "dead", "beard 0"};
+    for (int kind = 0; kind < 5; kind++) {
+      OnePlays y = Due.told(Due.head(0, 0, 1) + Due.part("p", kinds[kind], 9, 99, 98)
+          + Due.scene("s", 1));
+      int[] row = {kind % 4 + kind / 4, 9, 99, 98, kind == 1 ? 99 : 0, 0};
+      for (int what = 0; what < 6; what++) {
+        Due.is(y, "part(0, " + what + ") of " + kinds[kind], y.part(0, what), row[what], 0);
+      }
+    }
   }
 
   private static void on() {

@@ -502,6 +502,10 @@ public final class EveningBoundaryTest {
     Due.is(x, "troubled() with the one ahead CUT", x.troubled(), -2, 0);
     x.cut(2, false);
     Due.is(x, "troubled() of one second, by numbers", x.troubled(), 2, 0);
+    Due.says("TROUBLED: with those ahead of it alone, not with the first by number that comes later");
+    OnePlays late = Due.told(Due.head(0, 0, 1) + PLAIN + Due.scene("s", 9) + Due.on("p", "s", 4, 6)
+        + Due.on("p", "s", 2, 5) + Due.on("p", "s", 0, 1));
+    Due.is(late, "troubled()", late.troubled(), 0, 0);
     Due.says("TROUBLED: NEED of the one ahead counts, a second more does");
     OnePlays y = Due.told(Due.head(0, 0, 1) + PLAIN + Due.part("q", "plain", 0, 2, 0)
         + Due.scene("s", 99) + Due.on("p", "s", 50, 60) + Due.on("q", "s", 61, 62)

@@ -90,6 +90,19 @@ public final class FewestBoundaryTest {
     Due.is(never, "fewest()", never.fewest(), -2, 0);
     never.cut(1, true);
     Due.is(never, "fewest() with one CUT", never.fewest(), 1, 0);
+    Due.says("FEWEST: of pairs that MEET each other a player each");
+    StringBuilder pairs = new StringBuilder(Due.head(0, 0, 3) + Due.scene("s", 70));
+    for (int p = 0; p < 7; p++) {
+      pairs.append(Due.part(name(p), "plain", 0, 0, 9));
+      pairs.append(Due.on(name(p), "s", p < 3 ? 0 : 30, p < 3 ? 20 : 70));
+    }
+    OnePlays four = Due.told(pairs.toString());
+    Due.is(four, "fewest() of 3 and 4", four.fewest(), 4, 0);
+    four.cut(6, true);
+    Due.is(four, "fewest() of 3 and 3", four.fewest(), 3, 0);
+    four.cut(5, true);
+    four.cut(0, true);
+    Due.is(four, "fewest() of 2 and 2", four.fewest(), 2, 0);
     Due.says("FEWEST isn't of the CAST of THE EVENING");
     OnePlays z = parts(2, 1, false);
     z.cast(1, 6);
@@ -103,6 +116,22 @@ public final class FewestBoundaryTest {
     for (int p = 0; p < 7; p++) {
       Due.is(x, "player(" + p + ")", x.player(p), p, 0);
     }
+    Due.says("player: by FEWEST of the evening as it is, asked again behind each ACT");
+    x.cut(0, true);
+    int[] due = {0, 0, 1, 2, 3, 4, 5};
+    for (int p = 0; p < 7; p++) {
+      Due.is(x, "player(" + p + ") with the first's CUT", x.player(p), due[p], 0);
+    }
+    x.undo();
+    for (int p = 0; p < 7; p++) {
+      Due.is(x, "player(" + p + ") behind UNDO", x.player(p), p, 0);
+    }
+    OnePlays swapped = Due.told(pair(1));
+    Due.is("player(1)", swapped.player(1), 1);
+    swapped.swap(0, 1);
+    Due.is("player(1) in the other ORDER", swapped.player(1), 0);
+    swapped.undo();
+    Due.is("player(1) in the first ORDER again", swapped.player(1), 1);
     Due.says("player: NONE: 1 (one too small, one too large)");
     Due.is(x, "player(7)", x.player(7), -1, 1);
     OnePlays two = parts(2, 1, true);
@@ -211,6 +240,21 @@ public final class FewestBoundaryTest {
     for (int i = 0; i < 3; i++) {
       Due.is(like, "sceneOfAll(" + i + ")", like.sceneOfAll(i), due[i], 0);
     }
+    Due.says("FEWEST of all: of ORDERS by which it takes two the first, not a later one by which it takes more");
+    OnePlays two = Due.told(Due.head(0, 0, 1) + Due.part("a", "plain", 0, 0, 0)
+        + Due.part("b", "plain", 0, 0, 0) + Due.scene("s", 9) + Due.scene("t", 9)
+        + Due.on("a", "s", 0, 9) + Due.on("b", "s", 0, 9));
+    Due.is(two, "fewestOfAll() of two at once", two.fewestOfAll(), 2, 0);
+    Due.is(two, "sceneOfAll(0)", two.sceneOfAll(0), 0, 0);
+    // By s, t a coat is put over another; by t, s it must come off first.
+    OnePlays more = Due.told(Due.head(0, 0, 1) + Due.part("a", "plain", 0, 0, 1)
+        + Due.part("b", "plain", 0, 0, 1) + Due.part("c", "plain", 1, 0, 1) + Due.scene("s", 9)
+        + Due.scene("t", 9) + Due.on("a", "s", 0, 9) + Due.on("b", "s", 0, 9)
+        + Due.on("c", "t", 0, 9));
+    Due.is(more, "fewestOfAll() of two or three", more.fewestOfAll(), 2, 0);
+    Due.is(more, "sceneOfAll(0)", more.sceneOfAll(0), 0, 0);
+    more.swap(0, 1);
+    Due.is(more, "fewest() of the other ORDER", more.fewest(), 3, 0);
     Due.says("sceneOfAll: -2 if there is none");
     OnePlays never = Due.told(Due.head(0, 0, 3) + NEVER);
     Due.is(never, "sceneOfAll(0)", never.sceneOfAll(0), -2, 0);
@@ -352,6 +396,18 @@ public final class FewestBoundaryTest {
     Due.is(never, "fewest()", never.fewest(), -2, 0);
     Due.is(never, "ready(1)", never.ready(1), -2, 0);
     Due.is(never, "ready(0)", never.ready(0), -2, 0);
+    Due.says("READY is of the call alone: what is asked behind it is as told");
+    OnePlays then = Due.told(Due.head(0, 0, 1) + Due.part("a", "plain", 0, 9, 9)
+        + Due.part("b", "plain", 1, 5, 9) + Due.scene("s", 9) + Due.scene("t", 9)
+        + Due.on("a", "s", 0, 9) + Due.on("b", "t", 0, 9));
+    Due.is(then, "ready(1)", then.ready(1), 1, 0);
+    Due.is(then, "gap()", then.gap(), 5, 0);
+    Due.is(then, "ready(1)", then.ready(1), 1, 0);
+    Due.is(then, "swaps()", then.swaps(), -2, 0);
+    Due.is(then, "ready(1)", then.ready(1), 1, 0);
+    Due.is(then, "enough()", then.enough(), 0, 0);
+    Due.is(then, "fewestOfAll()", then.fewestOfAll(), 2, 0);
+    Due.is(then, "fewest()", then.fewest(), 2, 0);
     Due.says("ready: NONE: 1 (one too small, one too large), ahead of -2");
     Due.is(never, "ready(2)", never.ready(2), -1, 1);
     Due.is(both, "ready(2)", both.ready(2), -1, 1);
@@ -406,6 +462,16 @@ public final class FewestBoundaryTest {
     OnePlays two = Due.told(Due.head(0, 0, 3) + NEVER + Due.part("q", "plain", 0, 0, 0)
         + Due.on("q", "s", 0, 5) + Due.on("q", "s", 4, 9));
     Due.is(two, "lend()", two.lend(), -2, 0);
+    Due.says("lend: -2 if LENT always is -2, though FEWEST isn't");
+    // p and q take turns; each alone has a walk of 9 to do in 5 seconds.
+    OnePlays turns = Due.told(Due.head(9, 0, 1) + Due.part("p", "plain", 1, 0, 0)
+        + Due.part("q", "plain", 2, 0, 0) + Due.scene("s", 20) + Due.on("p", "s", 0, 5)
+        + Due.on("q", "s", 5, 10, "left right") + Due.on("p", "s", 10, 15, "right left")
+        + Due.on("q", "s", 15, 20));
+    Due.is(turns, "fewest()", turns.fewest(), 1, 0);
+    Due.is(turns, "lent(0)", turns.lent(0), -2, 0);
+    Due.is(turns, "lent(1)", turns.lent(1), -2, 0);
+    Due.is(turns, "lend()", turns.lend(), -2, 0);
   }
 
   // ------------------------------------------------------------- GAP, SWAPS, WHO
@@ -460,6 +526,13 @@ public final class FewestBoundaryTest {
     Due.is(bound, "swaps() of one ORDER", bound.swaps(), -2, 0);
     OnePlays never = Due.told(Due.head(0, 0, 3) + NEVER);
     Due.is(never, "swaps() of never", never.swaps(), -2, 0);
+    Due.says("SWAPS: back to the first ORDER");
+    OnePlays first = Due.told(Due.head(0, 0, 1) + Due.part("a", "plain", 0, 5, 5)
+        + Due.part("b", "plain", 1, 0, 5) + Due.scene("x", 10) + Due.scene("y", 20)
+        + Due.on("a", "x", 0, 10) + Due.on("b", "y", 0, 20));
+    Due.is(first, "swaps()", first.swaps(), 0, 0);
+    first.swap(0, 1);
+    Due.is(first, "swaps() behind one", first.swaps(), 1, 0);
     Due.says("SWAPS: each of two scenes, not of neighbours alone: of five in a row back two");
     OnePlays last = Due.told(Due.head(1, 0, 1) + lastOrder());
     Due.is(last, "swaps()", last.swaps(), 2, 0);
@@ -505,6 +578,15 @@ public final class FewestBoundaryTest {
     OnePlays none = Due.told(Due.head(0, 0, 1) + Due.part("p", "plain", 0, 0, 0)
         + Due.part("q", "plain", 0, 0, 0) + Due.scene("s", 1));
     Due.is(none, "who(3) of none on", none.who(3), 9, 0);
+    Due.says("WHO: a part that can't be by itself, but with another one");
+    // q's way across the stage, in no time, is between p's two.
+    OnePlays across = Due.told(Due.head(9, 0, 1) + Due.part("p", "plain", 1, 9, 9)
+        + Due.part("q", "plain", 2, 0, 0) + Due.scene("s", 20) + Due.on("p", "s", 0, 5)
+        + Due.on("p", "s", 10, 15, "right right") + Due.on("q", "s", 6, 9, "left right"));
+    for (int players = 1; players <= 3; players++) {
+      Due.is(across, "who(" + players + ")", across.who(players), players, 0);
+    }
+    Due.is(across, "fewest()", across.fewest(), 1, 0);
     Due.says("who: 2 (1 .. 3)");
     Due.is(row, "who(0)", row.who(0), -1, 2);
     Due.is(row, "who(4)", row.who(4), -1, 2);

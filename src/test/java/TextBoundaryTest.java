@@ -24,6 +24,7 @@ public final class TextBoundaryTest {
     noOrder();
     fullText();
     numbersOfPiece();
+    nextText();
     faultAndWhere();
     Due.end("boundaries of texts");
   }
@@ -613,6 +614,98 @@ public final class TextBoundaryTest {
     Due.is(x, "scene(1)", x.scene(1), -1, 1);
     Due.is("fewest()", x.fewest(), -2);
     Due.is(x, "image()", x.image(), 0, 0);
+  }
+
+  /** All that a text can tell, and then a FAULT or none. */
+  private static final String MUCH = Due.head(9, 9, 3) + Due.part("a", "puppet", 1, 1, 1)
+      + Due.part("b", "dead", 1, 1, 1) + Due.scene("s", 50) + Due.scene("t", 9) + Due.scene("u", 9)
+      + "after u t;after t s;" + Due.on("a", "s", 1, 9) + Due.on("b", "t", 1, 9)
+      + Due.on("b", "s", 40, 50, "left left behind")
+      + Due.on("b", "s", 41, 50, "left left behind")
+      + Due.saw("b", 90) + Due.saw("a", 99) + Due.saw("b", 5);
+
+  /** The same object reads one text behind the other. */
+  private static void nextText() {
+    Due.says("the PIECE from now on: nothing of an earlier one, nor of a text with a FAULT, is left");
+    String little = Due.head(0, 0, 1) + Due.part("a", "plain", 0, 0, 0)
+        + Due.part("b", "plain", 0, 7, 7) + Due.scene("s", 50) + Due.scene("t", 9)
+        + Due.on("a", "s", 0, 10, "left left behind") + Due.on("b", "s", 10, 20, "left left behind")
+        + Due.on("a", "s", 20, 30) + Due.on("b", "s", 44, 50) + Due.saw("a", 10) + Due.saw("b", 16) + Due.saw("b", 30);
+    OnePlays x = new OnePlays();
+    for (int round = 0; round < 4; round++) {
+      Texts.feed(x, MUCH);
+      Due.is(x, "piece() with a FAULT", x.piece(MUCH.length()), -1, 4);
+      if (round == 3) {
+        Texts.feed(x, whole(MUCH));
+        Due.is(x, "piece()", x.piece(whole(MUCH).length()), 4, 0);
+        much(x);
+      }
+      Texts.feed(x, whole(little));
+      Due.is(x, "piece()", x.piece(whole(little).length()), 4, 0);
+      little(x);
+      Texts.feed(x, whole(LEAST));
+      Due.is(x, "piece()", x.piece(whole(LEAST).length()), 0, 0);
+      int[] sizes = {1, 1, 0, 0, 0, 1, 0, 0, 0, 0};
+      for (int what = 0; what <= 9; what++) {
+        Due.is("size(" + what + ")", x.size(what), sizes[what]);
+      }
+      Due.is("orders()", x.orders(), 1);
+      Due.is("must()", x.must(), 0);
+      Due.is("troubled()", x.troubled(), -2);
+    }
+  }
+
+  private static void much(OnePlays x) {
+    int[] sizes = {2, 3, 4, 2, 3, 3};
+    for (int what = 0; what <= 5; what++) {
+      Due.is("size(" + what + ")", x.size(what), sizes[what]);
+    }
+    Due.is("orders()", x.orders(), 1);
+    Due.is("scene(0)", x.scene(0), 2);
+    Due.is("can(0)", x.can(0), 0);
+    Due.is("fewestOfAll()", x.fewestOfAll(), -2);
+    Due.is("sceneOfAll(0)", x.sceneOfAll(0), -2);
+    Due.is("bodily(1)", x.bodily(1), 1);
+    Due.is("must()", x.must(), 1);
+    Due.is("same(0, 1)", x.same(0, 1), 1);
+    Due.is("betrayed()", x.betrayed(), -2);
+  }
+
+  private static void little(OnePlays x) {
+    int[] sizes = {2, 2, 4, 0, 3, 1, 0, 0, 0, 0};
+    for (int what = 0; what <= 9; what++) {
+      Due.is("size(" + what + ")", x.size(what), sizes[what]);
+    }
+    Due.is("orders()", x.orders(), 2);
+    Due.is("scene(0)", x.scene(0), 0);
+    int[] bodily = {0, 0, 1, 1};
+    for (int k = 0; k < 4; k++) {
+      Due.is("bodily(" + k + ")", x.bodily(k), bodily[k]);
+    }
+    Due.is("can(0)", x.can(0), 1);
+    Due.is("slack(0)", x.slack(0), 14 - 7);
+    Due.is("could(2)", x.could(2), 1);
+    Due.is("fewest()", x.fewest(), 1);
+    Due.is("fewestOfAll()", x.fewestOfAll(), 1);
+    Due.is("sceneOfAll(0)", x.sceneOfAll(0), 0);
+    Due.is("must()", x.must(), 2);
+    Due.is("same(0, 1)", x.same(0, 1), 0);
+    Due.is("same(0, 2)", x.same(0, 2), 1);
+    Due.is("betrayed()", x.betrayed(), 1);
+    Due.is("sweat(0, 4)", x.sweat(0, 4), 20);
+    Due.is("sweat(0, 5)", x.sweat(0, 5), 0);
+    // What is done here must be gone with the next text.
+    Due.is("part(1, 5)", x.part(1, 5), 0);
+    Due.is("on(3, 5)", x.on(3, 5), 0);
+    Due.is("cast(1, 1)", x.cast(1, 1), true);
+    int[] led = {1, 3, -99};
+    for (int i = 0; i < 3; i++) {
+      Due.is("led(1, " + i + ")", Due.led(x, 1, i), led[i]);
+    }
+    Due.is("cut(3, true)", x.cut(3, true), true);
+    Due.is("swap(0, 1)", x.swap(0, 1), true);
+    Due.is("image()", x.image(), 0);
+    Due.is("undo()", x.undo(), true);
   }
 
   private static int told(String text) {
