@@ -18,6 +18,11 @@ final class Due {
     sentences++;
   }
 
+  /** How many checks there were so far. */
+  static int checks() {
+    return checks;
+  }
+
   static void is(String what, long got, long want) {
     checks++;
     if (got != want) {
