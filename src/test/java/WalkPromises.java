@@ -101,12 +101,14 @@ final class WalkPromises {
     }
     Due.is("part(0, 0)", x.part(0, 0), 3);
     Due.is("begins(0, true)", x.begins(0, true), 9);
+    nothingIsLeft();
     Walk.says("(THE EVENING as at first, no IMAGES):");
     x = Due.told(Walk.court().replace("after one two;", ""));
     x.image();
-    x.swap(0, 1);
     x.cast(0, 1);
     x.cut(0, true);
+    x.swap(0, 1);
+    x.cast(1, 1);
     x.undo();
     Texts.feed(x, text);
     x.piece(text.length());
@@ -172,6 +174,32 @@ final class WalkPromises {
     Due.is("where() behind one refused by 1", x.where(), -1);
     Due.is("fault()", x.fault(), 2);
     Due.is("where() of a new object", new OnePlays().where(), -1);
+  }
+
+  /** What is asked of a PIECE is answered of it, whatever was asked of those ahead of it. */
+  private static void nothingIsLeft() {
+    OnePlays x = court();
+    String one = Due.whole(Due.head(0, 0, 1) + Due.part("a", "plain", 1, 10, 10)
+        + Due.part("b", "plain", 1, 10, 10) + Due.scene("s", 100) + Due.scene("t", 100)
+        + Due.on("a", "s", 0, 10) + Due.on("b", "s", 20, 30) + Due.on("a", "t", 0, 10)
+        + Due.on("a", "t", 10, 20) + Due.on("a", "t", 20, 30) + Due.on("a", "t", 30, 40)
+        + Due.on("a", "t", 40, 50) + Due.saw("a", 10) + Due.saw("b", 10));
+    String[] texts = {one, Due.whole(Walk.court()), one.replace("b s 20 to 30", "b s 30 to 40")};
+    // FEWEST, of all, who plays the second part, CUTS, READY, MUST, GAP, ORDERS, afters, SLACK
+    int[][] due = {{2, 2, 1, 1, 1, 2, -2, 2, 0, -10}, {2, 2, 1, 1, 0, 2, -2, 1, 1, -2},
+        {1, 1, 0, 0, 0, 2, 0, 2, 0, 0}};
+    for (int i = 0; i < 3; i++) {
+      Texts.feed(x, texts[i]);
+      Due.is("piece()", x.piece(texts[i].length()), 7);
+      int[] got = {x.fewest(), x.fewestOfAll(), x.player(1), x.cuts(), x.ready(1), x.must(), x.gap(),
+          x.orders(), x.size(3), x.slack(0)};
+      for (int j = 0; j < got.length; j++) {
+        Due.is("answer " + j + " of text " + i, got[j], due[i][j]);
+      }
+      for (int k = 0; k < 7 && i != 1; k++) {
+        Due.is("bodily(" + k + ")", x.bodily(k), 1);
+      }
+    }
   }
 
   // ------------------------------------------------------------- 6 to 18: an evening
@@ -313,6 +341,7 @@ final class WalkPromises {
     Walk.says("NONE: 1 (no PIECE);");
     OnePlays none = new OnePlays();
     Due.is(none, "could(1)", none.could(1), -1, 1);
+    Due.is(none, "could(-1)", none.could(-1), -1, 1);
     Walk.says("2 (bits of none such).");
     Due.is(x, "could(4)", x.could(4), -1, 2);
     Due.is(x, "could(-1)", x.could(-1), -1, 2);
@@ -359,12 +388,19 @@ final class WalkPromises {
     Due.is("king, fool, corpse, king", x.sweat(0, 2), 3);
     Walk.says("3 seconds of CHANGES,");
     Due.is("11, 1, 4", x.sweat(0, 3), 16);
+    OnePlays light = Due.told(Walk.court().replace("coat 2 don 2 doff 1", "coat 3 don 0 doff 0")
+        .replace("beard 6", "beard 0"));
+    Due.is("CHANGES of 0 seconds, too", light.sweat(0, 2), 3);
+    Due.is("0, 0, 4", light.sweat(0, 3), 4);
     Walk.says("4 seconds said from behind,");
     Due.is("the cloak's 5", x.sweat(0, 4), 5);
     Walk.says("5 seconds of puppets that are not behind.");
     Due.is("the doll's 13", x.sweat(0, 5), 13);
     x.cut(3, true);
     Due.is("CUT", x.sweat(0, 5), 0);
+    OnePlays hidden = Due.told(Walk.court() + Due.on("doll", "two", 0, 7, "left left behind"));
+    Due.is("behind ones aside", hidden.sweat(0, 5), 13);
+    Due.is("they are behind", hidden.sweat(0, 4), 5 + 7);
     Walk.says("NONE: 1.");
     Due.is(x, "sweat(0, 6)", x.sweat(0, 6), -1, 1);
     Due.is(x, "sweat(0, -1)", x.sweat(0, -1), -1, 1);
@@ -494,6 +530,7 @@ final class WalkPromises {
     }
     Walk.says("(-2 likewise).");
     Due.is(never, "lent(1)", never.lent(1), -2, 0);
+    Due.is("without the part that can't be", never.lent(0), 1);
     Walk.says("NONE: 1.");
     Due.is(x, "lent(3)", x.lent(3), -1, 1);
     Due.is(x, "lent(-1)", x.lent(-1), -1, 1);
@@ -680,6 +717,11 @@ final class WalkPromises {
     Due.is(x, "redo()", x.redo(), true, 0);
     Due.is("b is 4's", x.part(1, 5), 4);
     Due.is(x, "redo()", x.redo(), true, 0);
+    Due.is("CUT", x.on(0, 5), 1);
+    Due.is("what is done again can be undone again", x.undo(), true);
+    Due.is("not CUT", x.on(0, 5), 0);
+    Due.is("b is 4's", x.part(1, 5), 4);
+    Due.is("and done again", x.redo(), true);
     Due.is("CUT", x.on(0, 5), 1);
     Walk.says("false: 6.");
     Due.is(x, "redo()", x.redo(), false, 6);

@@ -163,6 +163,7 @@ final class WalkTerms {
         Due.is("part(" + (p + 2) + ", " + what + ")", x.part(p + 2, what), rows[p][what]);
       }
     }
+    reads(line("part a beard 0 coat 0 don 0 doff 0"));
     fault("part a plain coat |10 don 0 doff 0", 4);
     fault("part a plain coat 0 don |100 doff 0", 4);
     fault("part a plain coat 0 don 0 doff |100", 4);
@@ -472,6 +473,10 @@ final class WalkTerms {
     Due.is("sceneOfAll(1)", x.sceneOfAll(1), 0);
     x = Due.told(company(20, 1, 2) + Due.on("a", "s", 90, 100) + Due.on("b", "t", 0, 10));
     Due.is("both ORDERS do: the first", x.sceneOfAll(0), 0);
+    x = Due.told(company(0, 1, 2) + Due.on("a", "s", 0, 10) + Due.on("b", "s", 0, 10));
+    Due.is("fewestOfAll()", x.fewestOfAll(), 2);
+    x.cut(1, true);
+    Due.is("fewestOfAll() of those that aren't CUT", x.fewestOfAll(), 1);
   }
 
   private static void cutsToWho() {
@@ -532,6 +537,13 @@ final class WalkTerms {
     x = Due.told(Due.head(1, 0, 1) + Due.part("low", "plain", 1, 5, 5) + Due.part("old", "beard 40", 2, 30, 5)
         + Due.scene("s", 99) + Due.on("low", "s", 0, 10) + Due.on("old", "s", 10, 20, "right right"));
     Due.is("ready(1) with a walk", x.ready(1), 0);
+    x = Due.told(company(0, 1, 2) + Due.on("a", "s", 90, 100) + Due.on("b", "t", 10, 20));
+    Due.is("ready(0) with s ahead of t", x.ready(0), 1);
+    x.swap(0, 1);
+    Due.is("ready(0) in the ORDER there is", x.ready(0), 0);
+    x = Due.told(company(0, 1, 2) + Due.on("a", "t", 90, 100) + Due.on("b", "s", 5, 10));
+    x.swap(0, 1);
+    Due.is("ready(0) with 5 seconds of 10", x.ready(0), 0);
   }
 
   private static void swapCounts() {
@@ -544,7 +556,10 @@ final class WalkTerms {
     // With s ahead of t and u behind s: s u t alone does.
     x = Due.told(text + Due.after("s", "t"));
     Due.is("swaps()", x.swaps(), 1);
-    // u at the end or at the begin alone: s must be next to t.
+    // Neither t nor u may be right behind s, nor u behind t: u t s alone, by the first and the last.
+    x = Due.told(text + Due.on("a", "t", 90, 100) + Due.on("b", "u", 0, 10));
+    Due.is("swaps() of two that are no neighbours", x.swaps(), 1);
+    // u at the end alone: s must be next to t.
     x = Due.told(text + Due.after("s", "t") + Due.after("t", "u"));
     Due.is("swaps() by no ORDER", x.swaps(), -2);
   }
@@ -599,6 +614,9 @@ final class WalkTerms {
     Due.is("27 less 20", x.slack(0), 7);
     x.cut(1, true);
     Due.is("one alone", x.slack(0), 999);
+    x = Due.told(Due.head(0, 99, 1) + PARTS + Due.scene("s", 500) + Due.scene("t", 500) + Due.scene("u", 500)
+        + Due.on("p", "s", 0, 10) + Due.on("p", "u", 0, 10));
+    Due.is("of 1,198 less 10 as many", x.slack(0), 1188);
   }
 
   private static void seenAndActs() {
@@ -617,6 +635,9 @@ final class WalkTerms {
     }
     Due.is("doff 4", Due.told(two + Due.saw("high", 20) + Due.saw("low", 24)).same(0, 1), 1);
     Due.is("a second less", Due.told(two + Due.saw("high", 20) + Due.saw("low", 23)).same(0, 1), 0);
+    String light = two.replace("don 6", "don 0");
+    Due.is("of one second by numbers: don 0", Due.told(light + Due.saw("low", 20) + Due.saw("high", 20)).same(0, 1), 1);
+    Due.is("the other way round: doff 4", Due.told(light + Due.saw("high", 20) + Due.saw("low", 20)).same(0, 1), 0);
     Due.is("one part, one second", Due.told(two + Due.saw("low", 20) + Due.saw("low", 20)).same(0, 1), 1);
     Walk.says("MUST: the fewest players that can have been all.");
     OnePlays x = Due.told(two + Due.saw("low", 20) + Due.saw("high", 21) + Due.saw("low", 30) + Due.saw("high", 31));
@@ -673,6 +694,12 @@ final class WalkTerms {
     Due.is("trouble() is scene()'s", x.trouble(), 1);
     x.scene(1);
     Due.is("trouble() of the latest", x.trouble(), 0);
+    x.size(99);
+    Due.led(x, 9, 0);
+    for (int i = 0; i < 46; i++) {
+      x.feed(0, 0, 0, 0, 0);
+    }
+    Due.is("trouble() behind calls of no number", x.trouble(), 0);
     Walk.says("0 it wasn't;");
     Due.is("trouble() behind one that isn't refused", x.trouble(), 0);
     Due.is("nor one that answers -2", x.troubled(), -2);
