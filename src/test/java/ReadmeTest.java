@@ -7,6 +7,8 @@ import java.net.URLClassLoader;
 import java.nio.charset.StandardCharsets;
 import java.nio.file.Files;
 import java.nio.file.Path;
+import java.util.regex.Matcher;
+import java.util.regex.Pattern;
 import javax.tools.JavaCompiler;
 import javax.tools.ToolProvider;
 
@@ -15,6 +17,7 @@ public final class ReadmeTest {
   public static void main(String[] args) throws Exception {
     String readme = new String(Files.readAllBytes(Path.of("README.md")), StandardCharsets.UTF_8);
     calls(readme);
+    refusals(readme);
     numbers(readme);
     example(readme);
     Due.end("README.md");
@@ -37,6 +40,31 @@ public final class ReadmeTest {
       }
     }
     Due.is("how many calls", rows, 45);
+  }
+
+  /** A call without a PIECE, of numbers below 0, is refused as its row says first. */
+  private static void refusals(String readme) throws Exception {
+    Due.says("what a refused call answers, and the first number of TROUBLE of its row");
+    Matcher rows = Pattern.compile("(?m)^\\| `(\\w+)\\(.*\\| (-1|-1000|false): ([0-9]).*\\|$")
+        .matcher(readme);
+    int found = 0;
+    while (rows.find()) {
+      found++;
+      for (Method m : OnePlays.class.getDeclaredMethods()) {
+        if (m.getName().equals(rows.group(1)) && Modifier.isPublic(m.getModifiers())) {
+          Object[] below = new Object[m.getParameterCount()];
+          for (int i = 0; i < below.length; i++) {
+            below[i] = m.getParameterTypes()[i] == int.class ? (Object) (-1) : (Object) false;
+          }
+          OnePlays x = new OnePlays();
+          String answer = m.invoke(x, below).toString();
+          Due.is("whether " + m.getName() + " answers " + rows.group(2),
+              answer.equals(rows.group(2)), true);
+          Due.is("trouble() behind " + m.getName(), x.trouble(), Integer.parseInt(rows.group(3)));
+        }
+      }
+    }
+    Due.is("how many calls have a TROUBLE", found, 45 - 6);
   }
 
   private static void numbers(String readme) {
